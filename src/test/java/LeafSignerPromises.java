@@ -32,6 +32,7 @@ public final class LeafSignerPromises {
         promise14Verify();
         promise14VerifyEachPartAndLeaf();
         promise14VerifyLooksAtThePresentMessage();
+        promise14VerifyHasTheRootAlone();
         promise15Hash();
         promise16Count();
         promise17Check();
@@ -479,6 +480,30 @@ public final class LeafSignerPromises {
         x.check();
         x.hash(1, 1);
         due("14: looking changes nothing", x.verify(), 0);
+    }
+
+    /** Another's signature: the verifier's own secrets and its own root must not come into it. */
+    private static void promise14VerifyHasTheRootAlone() {
+        LeafSigner signer = grown(1, 2, 3, 3);
+        LeafSigner verifier = grown(-7, 99, 3, 3);
+        signer.feed(5);
+        verifier.feed(5);
+        verifier.sign();
+        for (int leaf = 0; leaf < 4; leaf++) {
+            signer.sign();
+        }
+        verifier.setLeaf(signer.leaf());
+        for (int k = 0; k < 38; k++) {
+            verifier.setPart(k, 0, signer.part(k, 0));
+            verifier.setPart(k, 1, signer.part(k, 1));
+        }
+        tellRoot(verifier, 3);
+        due("14: another's signature by the own root", verifier.verify(), 2);
+        verifier.tell(0, signer.node(3, 0, 0));
+        verifier.tell(1, signer.node(3, 0, 1));
+        due("14: another's signature by the root told", verifier.verify(), 0);
+        verifier.setLeaf(2);
+        due("14: another's signature with another leaf", verifier.verify(), 2);
     }
 
     private static void promise15Hash() {
