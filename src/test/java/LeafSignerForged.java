@@ -1,123 +1,142 @@
 /**
- * The document's hash is a small one and can be run backwards, so a node beside the leaf can be found
- * that gives any root one likes. That alone reaches two cases: the root told that a new object has,
- * and a root that agrees with the one told in one half only.
+ * The document's hash can be run backwards, so a node beside the leaf can be found that gives any
+ * root one likes. That alone reaches what no honest signature does: the root told that a new object
+ * has, roots at both ends of long, and a root that agrees with the one told in one half only.
  */
 public final class LeafSignerForged {
-    private static int wrong = 0;
+    private static final int NODE_KIND = 4;
+    private static final long OPEN = 9;
 
     public static void main(String[] args) {
-        promise1TheRootToldAtFirst();
-        promise14OneHalfIsNotARoot();
-        System.out.println(wrong == 0 ? "forged signatures are told apart" : wrong + " answers are not as due");
-        if (wrong != 0) {
-            System.exit(1);
-        }
+        theRootToldAtFirst();
+        theRootToldStaysWhenBegun();
+        rootsAtTheEndsOfLong();
+        oneHalfIsNotARoot();
+        eachLeafOfEachHeight();
+        Due.end();
     }
 
-    private static void promise1TheRootToldAtFirst() {
-        LeafSigner x = signed();
-        long[] beside = besideForBoth(stateAboveLeaf(x, 0, 0), 0, 0);
-        setBeside(x, beside);
-        due("1: verify by the root told at first", x.verify(), 0);
-        x.tell(0, 1);
-        due("1: by another first half", x.verify(), 2);
-        x.tell(0, 0);
-        x.tell(1, 1);
-        due("1: by another second half", x.verify(), 2);
-        x.tell(1, 0);
-        due("1: by 0 and 0", x.verify(), 0);
-        x.feed(0);
-        due("1: another message", x.verify(), 2);
-    }
-
-    private static void promise14OneHalfIsNotARoot() {
-        LeafSigner x = signed();
-        long first = 123;
-        long second = -456;
-        x.tell(0, first);
-        x.tell(1, second);
-        long[] above = stateAboveLeaf(x, first, second);
-        setBeside(x, besideForBoth(above, first, second));
-        due("14: both halves", x.verify(), 0);
-        setBeside(x, besideForBoth(above, first, second + 1));
-        due("14: the first half alone", x.verify(), 2);
-        setBeside(x, besideForBoth(above, first + 1, second));
-        due("14: the second half alone", x.verify(), 2);
-    }
-
-    /** A new object, its keys 0 and its height 1, that has signed no message with leaf 0. */
-    private static LeafSigner signed() {
+    private static void theRootToldAtFirst() {
+        Due.sentence("1: the root told 0 and 0");
         LeafSigner x = new LeafSigner();
         x.grow(2);
         x.sign();
+        forge(x, 0, 1, new Terms.Pair(0, 0));
+        Due.due("verify", x.verify(), 0);
+        x.tell(0, 1);
+        Due.due("verify by another first half", x.verify(), 2);
+        x.tell(0, 0);
+        x.tell(1, 1);
+        Due.due("verify by another second half", x.verify(), 2);
+        x.tell(1, 0);
+        Due.due("verify by 0 and 0", x.verify(), 0);
+        x.feed(0);
+        Due.due("verify with another message", x.verify(), 2);
+    }
+
+    private static void theRootToldStaysWhenBegun() {
+        Due.sentence("2: begin has no word on the root told, so it stays 0 and 0");
+        LeafSigner x = signed(3, 5);
+        forge(x, OPEN, 3, new Terms.Pair(0, 0));
+        Due.due("verify", x.verify(), 0);
+    }
+
+    private static void rootsAtTheEndsOfLong() {
+        Due.sentence("13: Tells the verifier a half of the root (at both ends of long)");
+        long[] ends = {Long.MIN_VALUE, -1, 0, Long.MAX_VALUE};
+        for (long first : ends) {
+            for (long second : ends) {
+                LeafSigner x = signed(1, 0);
+                Due.due("tell 0 " + first, x.tell(0, first), 1);
+                Due.due("tell 1 " + second, x.tell(1, second), 1);
+                Due.due("verify before it is forged", x.verify(), 2);
+                forge(x, OPEN, 1, new Terms.Pair(first, second));
+                Due.due("verify by " + first + " " + second, x.verify(), 0);
+            }
+        }
+    }
+
+    private static void oneHalfIsNotARoot() {
+        Due.sentence("14: 2 when it gives another root (in one half only)");
+        LeafSigner x = signed(2, 2);
+        x.tell(0, 123);
+        x.tell(1, -456);
+        Terms.Pair own = belowRoot(x, OPEN, 2, new Terms.Pair(123, -456));
+        setUppermost(x, OPEN, 2, own, new Terms.Pair(123, -456));
+        Due.due("both halves", x.verify(), 0);
+        for (int bit : new int[] {0, 31, 32, 63}) {
+            setUppermost(x, OPEN, 2, own, new Terms.Pair(123, -456 ^ 1L << bit));
+            Due.due("the first half alone", x.verify(), 2);
+            setUppermost(x, OPEN, 2, own, new Terms.Pair(123 ^ 1L << bit, -456));
+            Due.due("the second half alone", x.verify(), 2);
+        }
+    }
+
+    private static void eachLeafOfEachHeight() {
+        Due.sentence("14: Checks the signature .. by the public, the height, and the root told: 0");
+        Terms.Pair told = new Terms.Pair(Long.MIN_VALUE, Long.MAX_VALUE);
+        for (int height = 1; height <= 4; height++) {
+            for (int leaf = 0; leaf < 1 << height; leaf++) {
+                LeafSigner x = signed(height, leaf);
+                x.tell(0, told.a());
+                x.tell(1, told.b());
+                forge(x, OPEN, height, told);
+                Due.due("verify, height " + height + " leaf " + leaf, x.verify(), 0);
+            }
+        }
+    }
+
+    /** A signer of the public OPEN that has signed no message with some leaf. */
+    private static LeafSigner signed(int height, int leaf) {
+        LeafSigner x = new LeafSigner();
+        x.begin(7, 8, OPEN, height);
+        x.grow(1 << height);
+        for (int i = 0; i <= leaf; i++) {
+            x.sign();
+        }
         return x;
     }
 
-    private static void setBeside(LeafSigner x, long[] beside) {
-        x.setPart(35, 0, beside[0]);
-        x.setPart(35, 1, beside[1]);
+    private static void forge(LeafSigner x, long open, int height, Terms.Pair root) {
+        setUppermost(x, open, height, belowRoot(x, open, height, root), root);
     }
 
-    /** The root's hash as it stands when only the node beside leaf 0 is still to come. */
-    private static long[] stateAboveLeaf(LeafSigner x, long first, long second) {
-        long[] digest = hash(new long[] {5, 4}, 0, 0, first, second);
-        long[] leaf = hash(new long[] {3, 72}, 0, 0);
-        int lack = 0;
-        for (int k = 0; k < 35; k++) {
-            int d = (int) (k < 32 ? digest[k / 16] >>> (60 - k % 16 * 4) : lack >>> (34 - k) * 4) & 15;
-            lack += k < 32 ? 15 - d : 0;
-            long[] place = {x.part(k, 0), x.part(k, 1)};
-            for (int j = d; j < 15; j++) {
-                place = hash(new long[] {2, 6}, 0, 0, k, j, place[0], place[1]);
+    /** Another node beside the uppermost one that the leaf is below: with it they give the root. */
+    private static void setUppermost(LeafSigner x, long open, int height, Terms.Pair own, Terms.Pair root) {
+        Terms.Pair from = Terms.goOn(Terms.start(NODE_KIND, 7), open, height, 0);
+        boolean ownComesFirst = x.leaf() >> (height - 1) == 0;
+        long[] beside = ownComesFirst
+                ? Terms.leading(Terms.goOn(from, own.a(), own.b()), root)
+                : Terms.leading(from, Terms.goBack(root, own.a(), own.b()));
+        x.setPart(34 + height, 0, beside[0]);
+        x.setPart(34 + height, 1, beside[1]);
+    }
+
+    /** The node below the root that the signature gives by a root told. */
+    private static Terms.Pair belowRoot(LeafSigner x, long open, int height, Terms.Pair told) {
+        Terms.Pair at = leafGiven(x, open, told);
+        int i = x.leaf();
+        for (int level = 1; level < height; level++) {
+            Terms.Pair beside = new Terms.Pair(x.part(34 + level, 0), x.part(34 + level, 1));
+            Terms.Pair left = i % 2 == 0 ? at : beside;
+            Terms.Pair right = i % 2 == 0 ? beside : at;
+            i /= 2;
+            at = Terms.hash(NODE_KIND, open, level, i, left.a(), left.b(), right.a(), right.b());
+        }
+        return at;
+    }
+
+    private static Terms.Pair leafGiven(LeafSigner x, long open, Terms.Pair told) {
+        int leaf = x.leaf();
+        int[] digits = Terms.digits(Terms.hash(5, open, leaf, told.a(), told.b()));
+        Terms.Pair state = Terms.goOn(Terms.start(3, 72), open, leaf);
+        for (int chain = 0; chain < 35; chain++) {
+            Terms.Pair place = new Terms.Pair(x.part(chain, 0), x.part(chain, 1));
+            for (int j = digits[chain]; j < 15; j++) {
+                place = Terms.hash(2, open, leaf, chain, j, place.a(), place.b());
             }
-            leaf = hash(leaf, place);
+            state = Terms.goOn(state, place.a(), place.b());
         }
-        return hash(new long[] {4, 7}, 0, 1, 0, leaf[0], leaf[1]);
-    }
-
-    /** The two longs that lead from a state of the hash to the halves that are wanted. */
-    private static long[] besideForBoth(long[] state, long first, long second) {
-        long b = unmixed(second) - first;
-        long a = unmixed(b) - state[1];
-        return new long[] {unmixed(a) ^ state[0], unmixed(first) ^ a};
-    }
-
-    private static long[] hash(long[] state, long... longs) {
-        long a = state[0];
-        long b = state[1];
-        for (long x : longs) {
-            a = mixed(a ^ x);
-            b = mixed(b + a);
-        }
-        return new long[] {a, b};
-    }
-
-    private static long mixed(long x) {
-        x = (x ^ (x >>> 30)) * 0xBF58476D1CE4E5B9L;
-        x = (x ^ (x >>> 27)) * 0x94D049BB133111EBL;
-        return x ^ (x >>> 31);
-    }
-
-    private static long unmixed(long x) {
-        x = (x ^ (x >>> 31) ^ (x >>> 62)) * inverse(0x94D049BB133111EBL);
-        x = (x ^ (x >>> 27) ^ (x >>> 54)) * inverse(0xBF58476D1CE4E5B9L);
-        return x ^ (x >>> 30) ^ (x >>> 60);
-    }
-
-    /** Newton's way: each step doubles the bits that are right, three of them at first. */
-    private static long inverse(long odd) {
-        long guess = odd;
-        for (int step = 0; step < 5; step++) {
-            guess *= 2 - odd * guess;
-        }
-        return guess;
-    }
-
-    private static void due(String call, long got, long want) {
-        if (got != want) {
-            wrong++;
-            System.out.println("promise " + call + " answered " + got + ", due is " + want);
-        }
+        return state;
     }
 }
